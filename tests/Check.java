@@ -10,6 +10,14 @@ final class Check {
         void run();
     }
 
+    interface OfOne {
+        long of(int number);
+    }
+
+    interface OfTwo {
+        long of(int first, int second);
+    }
+
     private static int wrong = 0;
     private static int made = 0;
     private static String part = "";
@@ -96,6 +104,12 @@ final class Check {
         put(x, text);
         x.load();
         return x;
+    }
+
+    static void passTo(BrigadePagers x, int time) {
+        while (x.time() < time) {
+            x.pass(Math.min(1440, time - x.time()));
+        }
     }
 
     static int find(BrigadePagers x, int sort, String name) {
