@@ -24,6 +24,7 @@ public final class ChangePromisesTest {
     public static void main(String[] args) {
         call();
         callByNight();
+        callHome();
         callTrust();
         sixteenCalls();
         handOn();
@@ -39,6 +40,7 @@ public final class ChangePromisesTest {
         undoKept();
         save();
         restore();
+        restoreOther();
         Check.end();
     }
 
@@ -137,6 +139,24 @@ public final class ChangePromisesTest {
         for (int at = 0; at < due.length; at++) {
             Check.due("trust(" + pairs[at][0] + ", " + pairs[at][1] + ") " + when, x.trust(pairs[at][0], pairs[at][1]), due[at]);
         }
+    }
+
+    private static void callHome() {
+        Check.part("promise 46, those who go home");
+        BrigadePagers x = Check.brigade(NIGHT + "person a 9;person b 3;person c 0;pager p 0 24 a;pager q 0 24 b;"
+                + "pager r 0 24 c;engine g 0 medic;kind k 30 240 1:p q r:g;");
+        x.pass(600);
+        x.call(0);
+        int[] until = {618, 606, BrigadePagers.NONE};
+        for (int person = 0; person < 3; person++) {
+            Check.due("outUntil(" + person + ")", x.outUntil(person), until[person]);
+        }
+        Check.due("cost(0)", x.cost(0), 24);
+        Check.due("came(0)", x.came(0), 3);
+        Check.due("pass(17)", x.pass(17), 0);
+        Check.due("outUntil(0)", x.outUntil(0), 618);
+        x.pass(1);
+        Check.due("outUntil(0)", x.outUntil(0), BrigadePagers.NONE);
     }
 
     private static void callTrust() {
@@ -600,5 +620,42 @@ public final class ChangePromisesTest {
         }
         refused("restore(0) of nothing", NONE_SUCH, () -> busy(), b -> b.restore(0));
         refused("restore(1) of nothing", NONE_SUCH, () -> busy(), b -> b.restore(1));
+    }
+
+    /** Two ways on from the same begin, of which each has told other things of the same calls. */
+    private static void restoreOther() {
+        Check.part("promise 56, the other way");
+        BrigadePagers x = byDay();
+        x.save(0);
+        x.call(0);
+        x.call(1);
+        x.pass(10);
+        String one = Snapshot.of(x);
+        x.pass(1000);
+        String oneLater = Snapshot.of(x);
+        x.undo();
+        x.save(1);
+        x.restore(0);
+        x.excuse(0, true);
+        x.setTrust(1, 2, 9);
+        x.call(1);
+        x.call(3);
+        x.pass(20);
+        String other = Snapshot.of(x);
+        x.pass(1000);
+        String otherLater = Snapshot.of(x);
+        x.undo();
+        x.save(0);
+        Check.due("that they differ", one.equals(other) || oneLater.equals(otherLater), false);
+        for (int times = 0; times < 2; times++) {
+            x.restore(1);
+            Check.due("all after restore(1)", Snapshot.of(x), one);
+            Check.due("pass(1000)", x.pass(1000), 1);
+            Check.due("all later", Snapshot.of(x), oneLater);
+            x.restore(0);
+            Check.due("all after restore(0)", Snapshot.of(x), other);
+            Check.due("pass(1000)", x.pass(1000), 1);
+            Check.due("all later", Snapshot.of(x), otherLater);
+        }
     }
 }

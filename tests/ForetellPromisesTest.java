@@ -458,6 +458,9 @@ public final class ForetellPromisesTest {
         x.setService(0, true);
         x.excuse(3, true);
         helpsNot(NONE_SUCH, x, 0);
+        BrigadePagers z = Check.brigade(NIGHT + "person a 1 driver;person b 1;pager p 0 24 b;engine e 5 driver;"
+                + "kind k 9 240 1:p:e;");
+        helps(z, 0, 0, 0);
         // A hand-on can also take the one pager away from a person who is needed, which is no help.
         BrigadePagers y = Check.brigade(NIGHT + "person a 1 driver;person b 1 medic;pager p 0 24 a;engine e 5 driver medic;"
                 + "kind k 9 240 1:p:e;");

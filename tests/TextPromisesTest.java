@@ -21,6 +21,8 @@ public final class TextPromisesTest {
         kindErrors();
         roomErrors();
         rightTexts();
+        loadAgain();
+        likeNames();
         errorsStayUntilLoad();
         find();
         count();
@@ -185,6 +187,8 @@ public final class TextPromisesTest {
         error(1, "   \n ^");
         error(1, "^nights 22 6 5 240;");
         error(1, "^nigh 22 6 5 240;");
+        error(1, "^light 22 6 5 240;");
+        error(1, "^nighs 22 6 5 240;");
         error(1, "^person a 5;");
         error(1, "^22 6 5 240;");
         error(1, "night^");
@@ -234,6 +238,8 @@ public final class TextPromisesTest {
         error(1, NIGHT + "person a 5 ^any;");
         error(1, NIGHT + "person a 5 ^cook;");
         error(1, NIGHT + "person a 5 ^chiefs;");
+        error(1, NIGHT + "person a 5 ^thief;");
+        error(1, NIGHT + "^verson a 5;");
         error(1, NIGHT + "person a 5 chief ^6;");
         error(1, NIGHT + "person a 5 chief^");
         error(1, NIGHT + "person a 5 ^:");
@@ -419,6 +425,63 @@ public final class TextPromisesTest {
         Check.refused("rotation(5, 2)", IndexOutOfBoundsException.class, () -> x.rotation(5, 2));
     }
 
+    private static String allOf(String skill, String pagers, String posts) {
+        return NIGHT + many("person ", 12, " 5" + skill + ";") + trusts(24) + many("pager ", 6, " 0 9" + pagers + ";")
+                + many("engine ", 5, " 5" + posts + ";") + "kind k 9 99 5:a b c d e f:e d c b a;"
+                + "kind l 9 99 1:a:a;kind m 9 99 2:f e:a;kind n 9 99 1:d b:b;kind o 9 99 1:d b:b;kind p 9 99 1:d b:b;";
+    }
+
+    /** What was loaded before, and the load before that one, leaves no trace. */
+    private static void loadAgain() {
+        Check.part("promise 4, again and again");
+        String[] texts = {allOf(" medic smoke", " a b c d e f g", " any smoke"), NIGHT, allOf("", " c a", " any"),
+            allOf(" chief", " d c b a", " chief any"), AB, allOf("", " l k j i h", " any medic"), ABPE};
+        BrigadePagers x = new BrigadePagers();
+        for (int times = 0; times < 2 * texts.length; times++) {
+            String text = texts[times * 3 % texts.length];
+            Check.put(x, text);
+            x.load();
+            BrigadePagers fresh = Check.brigade(text);
+            Check.due("all questions", Snapshot.of(x), Snapshot.of(fresh));
+            stir(x);
+            stir(fresh);
+            Check.due("all questions after some changes", Snapshot.of(x), Snapshot.of(fresh));
+        }
+    }
+
+    private static void stir(BrigadePagers x) {
+        if (x.count(1) == 6) {
+            x.handOn(0, 10, 500);
+            x.handOn(5, 5, 540);
+            x.handOn(5, 6, 540);
+            x.excuse(6, true);
+            x.call(0);
+            x.call(2);
+            if (x.returnsAt(0) == BrigadePagers.NONE) {
+                x.setService(0, false);
+            }
+            x.pass(20);
+        }
+    }
+
+    /** Names that are alike but for one letter are different ones. */
+    private static void likeNames() {
+        Check.part("promises 4 and 7, names that are alike");
+        String[] names = {"baaaaaaa", "abaaaaaa", "aabaaaaa", "aaabaaaa", "aaaabaaa", "aaaaabaa", "aaaaaaba", "aaaaaaab",
+            "aaaaaaaa", "aaaaaaa", "zaaaaaaa", "aaaaaaaz"};
+        StringBuilder text = new StringBuilder(NIGHT);
+        for (String name : names) {
+            text.append("person ").append(name).append(" 5;");
+        }
+        BrigadePagers x = Check.brigade(text.toString());
+        for (int number = 0; number < names.length; number++) {
+            Check.due("find(0) of " + names[number], Check.find(x, 0, names[number]), number);
+        }
+        notFound(x, NoSuchElementException.class, 0, "caaaaaaa");
+        notFound(x, NoSuchElementException.class, 0, "aaaaaaac");
+        notFound(x, NoSuchElementException.class, 0, "aaaaaa");
+    }
+
     private static void errorsStayUntilLoad() {
         Check.part("promises 5 and 6");
         BrigadePagers x = Check.brigade(AB);
@@ -463,7 +526,7 @@ public final class TextPromisesTest {
         Check.due("person eightlet", Check.find(x, 0, "eightlet"), 2);
         Check.refused("truncate(1) after it", IndexOutOfBoundsException.class, () -> x.truncate(1));
         String[] strange = {"", " ", "an", "annn", "ann ", " ann", "Ann", "ann;", "eightlets", "eightlet ", "aeightlet",
-            "a\u00eef", "ann\n", "5", "\u0000", "\u0000ann", "ann ann"};
+            "a\u00eef", "`ann", "``ann", "ann`", "`", "a`nn", "{nn", "ann\n", "5", "\u0000", "\u0000ann", "ann ann"};
         for (String name : strange) {
             notFound(x, NoSuchElementException.class, 0, name);
         }

@@ -239,6 +239,12 @@ public final class TimePromisesTest {
                 Check.due("arrival(" + person + ") at " + row[0], x.arrival(person), row[1 + person]);
             }
         }
+        BrigadePagers y = Check.brigade("night 1 3 5 240;person a 4;");
+        int[][] early = {{0, 4}, {59, 4}, {60, 9}, {120, 9}, {179, 9}, {180, 4}, {1380, 4}, {1499, 4}, {1500, 9}, {1620, 4}};
+        for (int[] row : early) {
+            Check.passTo(y, row[0]);
+            Check.due("arrival(0) with an early night at " + row[0], y.arrival(0), row[1]);
+        }
         x.call(0);
         Check.due("arrival(0) of one who is out", x.arrival(0), 9);
         Check.due("arrival(0) without a wake time", Check.brigade("night 22 6 0 5;person a 120;").arrival(0), 120);

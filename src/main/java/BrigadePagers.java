@@ -1282,8 +1282,6 @@ public final class BrigadePagers {
         }
 
         private void open(int comersNow) {
-            costs[size] = 0;
-            answered &= ~(1 << size);
             comers[size] = comersNow;
             leavers[size] = 0;
         }
@@ -1298,7 +1296,7 @@ public final class BrigadePagers {
 
         private int close(int cost, boolean isAnsweredNow) {
             costs[size] = cost;
-            answered |= isAnsweredNow ? 1 << size : 0;
+            answered = isAnsweredNow ? answered | 1 << size : answered & ~(1 << size);
             size++;
             return size - 1;
         }
