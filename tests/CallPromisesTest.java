@@ -96,6 +96,11 @@ public final class CallPromisesTest {
         Check.due("isAnswered(3) after undo()", x.isAnswered(3), false);
         Check.due("left(3) of a call that is not answered", x.left(3), 1);
         noCalls("isAnswered", x, call -> x.isAnswered(call) ? 1 : 0);
+        BrigadePagers y = called();
+        Check.put(y, TEXT);
+        y.load();
+        Check.due("call(3)", y.call(3), 0);
+        Check.due("isAnswered(0) after load()", y.isAnswered(0), false);
     }
 
     private static void came() {

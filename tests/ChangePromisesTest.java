@@ -636,11 +636,11 @@ public final class ChangePromisesTest {
         x.undo();
         x.save(1);
         x.restore(0);
-        x.excuse(0, true);
+        x.excuse(2, true);
         x.setTrust(1, 2, 9);
-        x.call(1);
         x.call(3);
         x.pass(20);
+        x.call(0);
         String other = Snapshot.of(x);
         x.pass(1000);
         String otherLater = Snapshot.of(x);
