@@ -12,31 +12,9 @@ public final class FullBrigadeTest {
         Check.end();
     }
 
-    /** Pager n belongs to person 2n; engine n is manned by that person but for the last pager's, who goes home. */
-    private static BrigadePagers full() {
-        StringBuilder text = new StringBuilder("night 22 6 5 240;");
-        for (int n = 0; n < 12; n++) {
-            text.append("person ").append((char) ('a' + n)).append(' ').append(n + 1).append(n == 8 || n == 11 ? " medic" : "")
-                    .append(';');
-        }
-        for (int n = 0; n < 6; n++) {
-            text.append("pager ").append((char) ('a' + n)).append(" 0 48");
-            for (int place = 0; place < 8; place++) {
-                text.append(' ').append((char) ('a' + (2 * n + place) % 12));
-            }
-            text.append(';');
-        }
-        text.append("engine a 0 any;engine b 0 any;engine c 0 any;engine d 0 any;engine e 0 medic;");
-        text.append("kind a 1 240 5:a b c d e f:a b c d e;kind b 1 240 5:f e d c b a:e d c b a;");
-        text.append("kind c 1 240 1:a:e;kind d 1 240 1:f:e;kind e 1 240 5:a:a b c d e;kind f 999 240 2:e f:a e;");
-        BrigadePagers x = Check.brigade(text.toString());
-        x.pass(600);
-        return x;
-    }
-
     private static void counts() {
         Check.part("full, counts");
-        BrigadePagers x = full();
+        BrigadePagers x = Scenes.full();
         int[] due = {12, 6, 5, 6, 0};
         for (int sort = 0; sort < 5; sort++) {
             Check.due("count(" + sort + ")", x.count(sort), due[sort]);
@@ -59,7 +37,7 @@ public final class FullBrigadeTest {
 
     private static void sixteenCallsOfFiveEngines() {
         Check.part("full, sixteen calls");
-        BrigadePagers x = full();
+        BrigadePagers x = Scenes.full();
         for (int call = 0; call < 16; call++) {
             Check.due("mostEngines(" + call % 2 + ")", x.mostEngines(call % 2), 5);
             Check.due("call(" + call % 2 + ")", x.call(call % 2), call);
@@ -117,7 +95,7 @@ public final class FullBrigadeTest {
 
     private static void helpful() {
         Check.part("full, helpful hand-ons");
-        BrigadePagers x = full();
+        BrigadePagers x = Scenes.full();
         Check.due("helpfulPager(2)", x.helpfulPager(2), 0);
         Check.due("helpfulPerson(2)", x.helpfulPerson(2), 8);
         Check.due("helpfulPager(3)", x.helpfulPager(3), 5);

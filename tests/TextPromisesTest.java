@@ -162,263 +162,226 @@ public final class TextPromisesTest {
         Check.refused("load() of nothing", IllegalArgumentException.class, () -> x.load());
     }
 
-    /** The sign ^ stands before the token where the error is due; it is no part of the text. */
-    private static void error(int code, String marked) {
-        int position = marked.indexOf('^');
-        String text = marked.replace("^", "");
-        BrigadePagers x = new BrigadePagers();
-        Check.put(x, text);
-        Check.refused("load() of " + marked, IllegalArgumentException.class, () -> x.load());
-        Check.due("errorCode() of " + marked, x.errorCode(), code);
-        Check.due("errorPosition() of " + marked, x.errorPosition(), position);
-    }
-
-    private static void right(String text, int persons) {
-        BrigadePagers x = new BrigadePagers();
-        Check.put(x, text);
-        Check.due("load() of " + text, x.load(), persons);
-        Check.due("errorCode() of " + text, x.errorCode(), 0);
-        Check.due("errorPosition() of " + text, x.errorPosition(), BrigadePagers.NONE);
-    }
-
     private static void nightErrors() {
         Check.part("promises 4 to 6, night");
-        error(1, "^");
-        error(1, "   \n ^");
-        error(1, "^nights 22 6 5 240;");
-        error(1, "^nigh 22 6 5 240;");
-        error(1, "^light 22 6 5 240;");
-        error(1, "^nighs 22 6 5 240;");
-        error(1, "^person a 5;");
-        error(1, "^22 6 5 240;");
-        error(1, "night^");
-        error(1, "night  ^");
-        error(1, "night ^;");
-        error(1, "night ^one 6 5 240;");
-        error(1, "night ^000022 6 5 240;");
-        error(1, "night 22 ^123456 5 240;");
-        error(2, "night ^24 6 5 240;");
-        error(2, "night ^99999 6 5 240;");
-        error(2, "night 22 ^24 5 240;");
-        error(2, "night 22 ^22 5 240;");
-        error(2, "night 22 ^022 5 240;");
-        error(2, "night 22 6 ^31 240;");
-        error(2, "night 22 6 5 ^0;");
-        error(2, "night 22 6 5 ^1000;");
-        error(1, "night 22 6 5 ^;");
-        error(1, "night 22 6 5 240^");
-        error(1, "night 22 6 5 240 ^240;");
-        error(1, "night 22 6 5 240^:");
-        error(1, NIGHT + "^;");
-        error(1, NIGHT + "^night 22 6 5 240;");
-        error(1, NIGHT + "^Person a 5;");
-        error(1, NIGHT + "^persons a 5;");
-        error(1, NIGHT + "^7");
-        error(1, NIGHT + "^\tperson a 5;");
-        error(1, NIGHT + "^\rperson a 5;");
-        error(1, NIGHT + "^\u0000person a 5;");
-        error(1, NIGHT + "^\u00a0person a 5;");
-        error(1, "night ^\u00b2 6 5 240;");
-        error(1, "night 22^-6 5 240;");
-        error(1, "^{night 22 6 5 240;");
-        error(1, "^`night 22 6 5 240;");
-        error(1, "night ^/2 6 5 240;");
+        Texts.error(1, "^");
+        Texts.error(1, "   \n ^");
+        Texts.error(1, "^nights 22 6 5 240;");
+        Texts.error(1, "^nigh 22 6 5 240;");
+        Texts.error(1, "^light 22 6 5 240;");
+        Texts.error(1, "^nighs 22 6 5 240;");
+        Texts.error(1, "^person a 5;");
+        Texts.error(1, "^22 6 5 240;");
+        Texts.error(1, "night^");
+        Texts.error(1, "night  ^");
+        Texts.error(1, "night ^;");
+        Texts.error(1, "night ^one 6 5 240;");
+        Texts.error(1, "night ^000022 6 5 240;");
+        Texts.error(1, "night 22 ^123456 5 240;");
+        Texts.error(2, "night ^24 6 5 240;");
+        Texts.error(2, "night ^99999 6 5 240;");
+        Texts.error(2, "night 22 ^24 5 240;");
+        Texts.error(2, "night 22 ^22 5 240;");
+        Texts.error(2, "night 22 ^022 5 240;");
+        Texts.error(2, "night 22 6 ^31 240;");
+        Texts.error(2, "night 22 6 5 ^0;");
+        Texts.error(2, "night 22 6 5 ^1000;");
+        Texts.error(1, "night 22 6 5 ^;");
+        Texts.error(1, "night 22 6 5 240^");
+        Texts.error(1, "night 22 6 5 240 ^240;");
+        Texts.error(1, "night 22 6 5 240^:");
+        Texts.error(1, NIGHT + "^;");
+        Texts.error(1, NIGHT + "^night 22 6 5 240;");
+        Texts.error(1, NIGHT + "^Person a 5;");
+        Texts.error(1, NIGHT + "^persons a 5;");
+        Texts.error(1, NIGHT + "^7");
+        Texts.error(1, NIGHT + "^\tperson a 5;");
+        Texts.error(1, NIGHT + "^\rperson a 5;");
+        Texts.error(1, NIGHT + "^\u0000person a 5;");
+        Texts.error(1, NIGHT + "^\u00a0person a 5;");
+        Texts.error(1, "night ^\u00b2 6 5 240;");
+        Texts.error(1, "night 22^-6 5 240;");
+        Texts.error(1, "^{night 22 6 5 240;");
+        Texts.error(1, "^`night 22 6 5 240;");
+        Texts.error(1, "night ^/2 6 5 240;");
     }
 
     private static void personErrors() {
         Check.part("promises 4 to 6, persons");
-        error(1, NIGHT + "person^");
-        error(1, NIGHT + "person ^5 a;");
-        error(1, NIGHT + "person ^;");
-        error(1, NIGHT + "person ^ninelette 5;");
-        error(1, NIGHT + "person a ^b 5;");
-        error(1, NIGHT + "person a ^;");
-        error(2, NIGHT + "person a ^121;");
-        error(1, NIGHT + "person a ^000121;");
-        error(1, NIGHT + "person a 5 ^any;");
-        error(1, NIGHT + "person a 5 ^cook;");
-        error(1, NIGHT + "person a 5 ^chiefs;");
-        error(1, NIGHT + "person a 5 ^thief;");
-        error(1, NIGHT + "^verson a 5;");
-        error(1, NIGHT + "person a 5 chief ^6;");
-        error(1, NIGHT + "person a 5 chief^");
-        error(1, NIGHT + "person a 5 ^:");
-        error(3, NIGHT + "person a 5 chief ^chief;");
-        error(3, NIGHT + "person a 5 driver chief ^driver;");
-        error(3, NIGHT + "person a 5 medic smoke ^medic;");
-        error(3, NIGHT + "person a 5 smoke driver ^smoke medic;");
-        error(3, NIGHT + "person a 5 chief driver medic smoke ^medic;");
-        error(3, NIGHT + "person a 5;person ^a 121;");
-        error(3, AB + "person ^b 5;");
-        error(3, NIGHT + "person eightlet 5;person ^eightlet 5;");
-        right(NIGHT + "person a 5;person aa 5;person ab 5;person b 5;", 4);
+        Texts.error(1, NIGHT + "person^");
+        Texts.error(1, NIGHT + "person ^5 a;");
+        Texts.error(1, NIGHT + "person ^;");
+        Texts.error(1, NIGHT + "person ^ninelette 5;");
+        Texts.error(1, NIGHT + "person a ^b 5;");
+        Texts.error(1, NIGHT + "person a ^;");
+        Texts.error(2, NIGHT + "person a ^121;");
+        Texts.error(1, NIGHT + "person a ^000121;");
+        Texts.error(1, NIGHT + "person a 5 ^any;");
+        Texts.error(1, NIGHT + "person a 5 ^cook;");
+        Texts.error(1, NIGHT + "person a 5 ^chiefs;");
+        Texts.error(1, NIGHT + "person a 5 ^thief;");
+        Texts.error(1, NIGHT + "^verson a 5;");
+        Texts.error(1, NIGHT + "person a 5 chief ^6;");
+        Texts.error(1, NIGHT + "person a 5 chief^");
+        Texts.error(1, NIGHT + "person a 5 ^:");
+        Texts.error(3, NIGHT + "person a 5 chief ^chief;");
+        Texts.error(3, NIGHT + "person a 5 driver chief ^driver;");
+        Texts.error(3, NIGHT + "person a 5 medic smoke ^medic;");
+        Texts.error(3, NIGHT + "person a 5 smoke driver ^smoke medic;");
+        Texts.error(3, NIGHT + "person a 5 chief driver medic smoke ^medic;");
+        Texts.error(3, NIGHT + "person a 5;person ^a 121;");
+        Texts.error(3, AB + "person ^b 5;");
+        Texts.error(3, NIGHT + "person eightlet 5;person ^eightlet 5;");
+        Texts.right(NIGHT + "person a 5;person aa 5;person ab 5;person b 5;", 4);
     }
 
     private static void trustErrors() {
         Check.part("promises 4 to 6, trusts");
-        error(4, AB + "trust ^x a 3;");
-        error(4, AB + "trust a ^x 3;");
-        error(4, AB + "trust ^x x 3;");
-        error(6, AB + "trust a ^a 3;");
-        error(6, AB + "trust b ^b 10;");
-        error(3, AB + "trust a b 3;trust a ^b 3;");
-        error(3, AB + "trust a b 0;trust a ^b 1;");
-        error(2, AB + "trust a b ^10;");
-        error(1, AB + "trust a ^3;");
-        error(1, AB + "trust ^;");
-        error(1, AB + "trust a b ^c;");
-        error(1, AB + "trust a b 3 ^4;");
-        error(1, AB + "trust a ^ninelette 3;");
-        error(1, AB + "trust ^ninelette a 3;");
-        error(1, AB + "trust a b 3^");
-        error(1, AB + "trust a b 3;^person c 5;");
-        error(4, NIGHT + "trust ^a b 3;");
-        right(AB + "trust a b 3;trust b a 3;", 2);
+        Texts.error(4, AB + "trust ^x a 3;");
+        Texts.error(4, AB + "trust a ^x 3;");
+        Texts.error(4, AB + "trust ^x x 3;");
+        Texts.error(6, AB + "trust a ^a 3;");
+        Texts.error(6, AB + "trust b ^b 10;");
+        Texts.error(3, AB + "trust a b 3;trust a ^b 3;");
+        Texts.error(3, AB + "trust a b 0;trust a ^b 1;");
+        Texts.error(2, AB + "trust a b ^10;");
+        Texts.error(1, AB + "trust a ^3;");
+        Texts.error(1, AB + "trust ^;");
+        Texts.error(1, AB + "trust a b ^c;");
+        Texts.error(1, AB + "trust a b 3 ^4;");
+        Texts.error(1, AB + "trust a ^ninelette 3;");
+        Texts.error(1, AB + "trust ^ninelette a 3;");
+        Texts.error(1, AB + "trust a b 3^");
+        Texts.error(1, AB + "trust a b 3;^person c 5;");
+        Texts.error(4, NIGHT + "trust ^a b 3;");
+        Texts.right(AB + "trust a b 3;trust b a 3;", 2);
     }
 
     private static void pagerErrors() {
         Check.part("promises 4 to 6, pagers");
-        error(2, AB + "pager p ^10 1 a;");
-        error(2, AB + "pager p 0 ^0 a;");
-        error(2, AB + "pager p 0 ^169 a;");
-        error(1, AB + "pager p 0 1 ^;");
-        error(1, AB + "pager p 0 ^a;");
-        error(1, AB + "pager ^0 1 a;");
-        error(1, AB + "pager p 0 1 a ^5;");
-        error(1, AB + "pager p 0 1 a^:");
-        error(1, AB + "pager p 0 1 a b^");
-        error(1, AB + "pager ^ninelette 0 1 a;");
-        error(1, AB + "pager p 0 1 ^ninelette;");
-        error(4, AB + "pager p 0 1 ^x;");
-        error(4, AB + "pager p 0 1 a b ^c;");
-        error(4, ABP + "pager q 0 1 ^p;");
-        error(3, ABP + "pager ^p 10 1 a;");
-        error(5, AB + "pager p 0 1 a b a b a b a b ^a;");
-        error(5, AB + "pager p 0 1 a a a a a a a a ^a x;");
-        error(4, AB + "pager p 0 1 a b a b a b a b ^x;");
-        error(1, AB + "pager p 0 1 a b a b a b a b ^ninelette;");
-        error(1, AB + "pager p 0 1 a b a b a b a b ^7;");
-        error(1, ABP + "^trust a b 3;");
-        error(1, ABP + "^person c 3;");
-        right(AB + "pager a 0 1 a b a b a b a b;pager b 9 168 b;", 2);
+        Texts.error(2, AB + "pager p ^10 1 a;");
+        Texts.error(2, AB + "pager p 0 ^0 a;");
+        Texts.error(2, AB + "pager p 0 ^169 a;");
+        Texts.error(1, AB + "pager p 0 1 ^;");
+        Texts.error(1, AB + "pager p 0 ^a;");
+        Texts.error(1, AB + "pager ^0 1 a;");
+        Texts.error(1, AB + "pager p 0 1 a ^5;");
+        Texts.error(1, AB + "pager p 0 1 a^:");
+        Texts.error(1, AB + "pager p 0 1 a b^");
+        Texts.error(1, AB + "pager ^ninelette 0 1 a;");
+        Texts.error(1, AB + "pager p 0 1 ^ninelette;");
+        Texts.error(4, AB + "pager p 0 1 ^x;");
+        Texts.error(4, AB + "pager p 0 1 a b ^c;");
+        Texts.error(4, ABP + "pager q 0 1 ^p;");
+        Texts.error(3, ABP + "pager ^p 10 1 a;");
+        Texts.error(5, AB + "pager p 0 1 a b a b a b a b ^a;");
+        Texts.error(5, AB + "pager p 0 1 a a a a a a a a ^a x;");
+        Texts.error(4, AB + "pager p 0 1 a b a b a b a b ^x;");
+        Texts.error(1, AB + "pager p 0 1 a b a b a b a b ^ninelette;");
+        Texts.error(1, AB + "pager p 0 1 a b a b a b a b ^7;");
+        Texts.error(1, ABP + "^trust a b 3;");
+        Texts.error(1, ABP + "^person c 3;");
+        Texts.right(AB + "pager a 0 1 a b a b a b a b;pager b 9 168 b;", 2);
     }
 
     private static void engineErrors() {
         Check.part("promises 4 to 6, engines");
-        error(2, NIGHT + "engine e ^121 any;");
-        error(1, NIGHT + "engine e 5 ^;");
-        error(1, NIGHT + "engine e 5^");
-        error(1, NIGHT + "engine e ^any;");
-        error(1, NIGHT + "engine ^5 any;");
-        error(1, NIGHT + "engine ^ninelette 5 any;");
-        error(1, NIGHT + "engine e 5 ^cook;");
-        error(1, NIGHT + "engine e 5 any ^cook;");
-        error(1, NIGHT + "engine e 5 any ^5;");
-        error(1, NIGHT + "engine e 5 any^:");
-        error(5, NIGHT + "engine e 5 any chief any driver any smoke ^medic;");
-        error(1, NIGHT + "engine e 5 any chief any driver any smoke ^cook;");
-        error(1, NIGHT + "engine e 5 any chief any driver any smoke ^7;");
-        error(3, NIGHT + "engine e 5 any;engine ^e 121 any;");
-        error(1, ABPE + "^pager q 0 1 a;");
-        error(1, ABPE + "^trust a b 3;");
-        error(1, ABPE + "^person c 3;");
-        right(NIGHT + "engine e 0 chief chief chief driver medic smoke;engine f 120 any;", 0);
+        Texts.error(2, NIGHT + "engine e ^121 any;");
+        Texts.error(1, NIGHT + "engine e 5 ^;");
+        Texts.error(1, NIGHT + "engine e 5^");
+        Texts.error(1, NIGHT + "engine e ^any;");
+        Texts.error(1, NIGHT + "engine ^5 any;");
+        Texts.error(1, NIGHT + "engine ^ninelette 5 any;");
+        Texts.error(1, NIGHT + "engine e 5 ^cook;");
+        Texts.error(1, NIGHT + "engine e 5 any ^cook;");
+        Texts.error(1, NIGHT + "engine e 5 any ^5;");
+        Texts.error(1, NIGHT + "engine e 5 any^:");
+        Texts.error(5, NIGHT + "engine e 5 any chief any driver any smoke ^medic;");
+        Texts.error(1, NIGHT + "engine e 5 any chief any driver any smoke ^cook;");
+        Texts.error(1, NIGHT + "engine e 5 any chief any driver any smoke ^7;");
+        Texts.error(3, NIGHT + "engine e 5 any;engine ^e 121 any;");
+        Texts.error(1, ABPE + "^pager q 0 1 a;");
+        Texts.error(1, ABPE + "^trust a b 3;");
+        Texts.error(1, ABPE + "^person c 3;");
+        Texts.right(NIGHT + "engine e 0 chief chief chief driver medic smoke;engine f 120 any;", 0);
     }
 
     private static void kindErrors() {
         Check.part("promises 4 to 6, kinds");
-        error(1, ABPE + "kind ^7 1 0 1:p:e;");
-        error(1, ABPE + "kind ^ninelette 1 0 1:p:e;");
-        error(2, ABPE + "kind k ^0 0 1:p:e;");
-        error(2, ABPE + "kind k ^1000 0 1:p:e;");
-        error(2, ABPE + "kind k 1 ^241 1:p:e;");
-        error(2, ABPE + "kind k 1 0 ^0:p:e;");
-        error(2, ABPE + "kind k 1 0 ^6:p:e;");
-        error(1, ABPE + "kind k 1 0 1 ^p:e;");
-        error(1, ABPE + "kind k 1 0 1 ^;");
-        error(1, ABPE + "kind k 1 0 1:^:e;");
-        error(1, ABPE + "kind k 1 0 1:p^;");
-        error(1, ABPE + "kind k 1 0 1:p ^7:e;");
-        error(1, ABPE + "kind k 1 0 1:p:^;");
-        error(1, ABPE + "kind k 1 0 1:p:e^:");
-        error(1, ABPE + "kind k 1 0 1:p:e^");
-        error(1, ABPE + "kind k 1 0 1:^ninelette:e;");
-        error(1, ABPE + "kind k 1 0 1:p:e ^ninelette;");
-        error(4, ABPE + "kind k 1 0 1:^a:e;");
-        error(4, ABPE + "kind k 1 0 1:p ^e:e;");
-        error(4, ABPE + "kind k 1 0 1:p:^p;");
-        error(4, ABPE + "kind k 1 0 1:p:e ^a;");
-        error(3, ABPE + "kind k 1 0 1:p ^p:e;");
-        error(3, ABPE + "kind k 1 0 1:p:e ^e;");
-        error(3, ABPE + "kind k 1 0 1:p:e;kind ^k 0 0 1:p:e;");
-        error(1, ABPE + "kind k 1 0 1:p:e;^engine f 5 any;");
-        error(1, ABPE + "kind k 1 0 1:p:e;^pager q 0 1 a;");
-        error(1, ABPE + "kind k 1 0 1:p:e;^night 22 6 5 240;");
-        right(ABPE + "kind k 1 0 1:p:e;kind l 999 240 5:p:e;", 2);
-    }
-
-    private static String many(String before, int size, String after) {
-        StringBuilder text = new StringBuilder();
-        for (int number = 0; number < size; number++) {
-            text.append(before).append((char) ('a' + number)).append(after);
-        }
-        return text.toString();
-    }
-
-    private static String trusts(int size) {
-        StringBuilder text = new StringBuilder();
-        for (int number = 0; number < size; number++) {
-            int first = number / 11;
-            int second = number % 11 + (number % 11 >= first ? 1 : 0);
-            text.append("trust ").append((char) ('a' + first)).append(' ').append((char) ('a' + second)).append(" 3;");
-        }
-        return text.toString();
+        Texts.error(1, ABPE + "kind ^7 1 0 1:p:e;");
+        Texts.error(1, ABPE + "kind ^ninelette 1 0 1:p:e;");
+        Texts.error(2, ABPE + "kind k ^0 0 1:p:e;");
+        Texts.error(2, ABPE + "kind k ^1000 0 1:p:e;");
+        Texts.error(2, ABPE + "kind k 1 ^241 1:p:e;");
+        Texts.error(2, ABPE + "kind k 1 0 ^0:p:e;");
+        Texts.error(2, ABPE + "kind k 1 0 ^6:p:e;");
+        Texts.error(1, ABPE + "kind k 1 0 1 ^p:e;");
+        Texts.error(1, ABPE + "kind k 1 0 1 ^;");
+        Texts.error(1, ABPE + "kind k 1 0 1:^:e;");
+        Texts.error(1, ABPE + "kind k 1 0 1:p^;");
+        Texts.error(1, ABPE + "kind k 1 0 1:p ^7:e;");
+        Texts.error(1, ABPE + "kind k 1 0 1:p:^;");
+        Texts.error(1, ABPE + "kind k 1 0 1:p:e^:");
+        Texts.error(1, ABPE + "kind k 1 0 1:p:e^");
+        Texts.error(1, ABPE + "kind k 1 0 1:^ninelette:e;");
+        Texts.error(1, ABPE + "kind k 1 0 1:p:e ^ninelette;");
+        Texts.error(4, ABPE + "kind k 1 0 1:^a:e;");
+        Texts.error(4, ABPE + "kind k 1 0 1:p ^e:e;");
+        Texts.error(4, ABPE + "kind k 1 0 1:p:^p;");
+        Texts.error(4, ABPE + "kind k 1 0 1:p:e ^a;");
+        Texts.error(3, ABPE + "kind k 1 0 1:p ^p:e;");
+        Texts.error(3, ABPE + "kind k 1 0 1:p:e ^e;");
+        Texts.error(3, ABPE + "kind k 1 0 1:p:e;kind ^k 0 0 1:p:e;");
+        Texts.error(1, ABPE + "kind k 1 0 1:p:e;^engine f 5 any;");
+        Texts.error(1, ABPE + "kind k 1 0 1:p:e;^pager q 0 1 a;");
+        Texts.error(1, ABPE + "kind k 1 0 1:p:e;^night 22 6 5 240;");
+        Texts.right(ABPE + "kind k 1 0 1:p:e;kind l 999 240 5:p:e;", 2);
     }
 
     private static void roomErrors() {
         Check.part("promises 4 to 6, no room");
-        String twelve = NIGHT + many("person ", 12, " 5;");
-        right(twelve, 12);
-        error(5, twelve + "^person m 5;");
-        error(5, twelve + "^person");
-        error(5, twelve + "^person ninelette");
-        error(5, twelve + "^person a 5;");
-        right(twelve + trusts(24), 12);
-        error(5, twelve + trusts(24) + "^trust c d 3;");
-        error(5, twelve + trusts(24) + "^trust x;");
-        error(1, twelve + "trust a b 3;^person m 5;");
-        String six = AB + many("pager ", 6, " 0 1 a b;");
-        right(six, 2);
-        error(5, six + "^pager g 0 1 a;");
-        error(1, six + "engine e 5 any;^pager g 0 1 a;");
-        String five = NIGHT + many("engine ", 5, " 5 any;");
-        right(five, 0);
-        error(5, five + "^engine f 5 any;");
-        String kinds = ABPE + many("kind ", 6, " 1 0 1:p:e;");
-        right(kinds, 2);
-        error(5, kinds + "^kind g 1 0 1:p:e;");
-        error(1, kinds + "^engine g 1 any;");
+        String twelve = NIGHT + Texts.many("person ", 12, " 5;");
+        Texts.right(twelve, 12);
+        Texts.error(5, twelve + "^person m 5;");
+        Texts.error(5, twelve + "^person");
+        Texts.error(5, twelve + "^person ninelette");
+        Texts.error(5, twelve + "^person a 5;");
+        Texts.right(twelve + Texts.trusts(24), 12);
+        Texts.error(5, twelve + Texts.trusts(24) + "^trust c d 3;");
+        Texts.error(5, twelve + Texts.trusts(24) + "^trust x;");
+        Texts.error(1, twelve + "trust a b 3;^person m 5;");
+        String six = AB + Texts.many("pager ", 6, " 0 1 a b;");
+        Texts.right(six, 2);
+        Texts.error(5, six + "^pager g 0 1 a;");
+        Texts.error(1, six + "engine e 5 any;^pager g 0 1 a;");
+        String five = NIGHT + Texts.many("engine ", 5, " 5 any;");
+        Texts.right(five, 0);
+        Texts.error(5, five + "^engine f 5 any;");
+        String kinds = ABPE + Texts.many("kind ", 6, " 1 0 1:p:e;");
+        Texts.right(kinds, 2);
+        Texts.error(5, kinds + "^kind g 1 0 1:p:e;");
+        Texts.error(1, kinds + "^engine g 1 any;");
         StringBuilder full = new StringBuilder(NIGHT);
         while (full.length() < 1199) {
             full.append(' ');
         }
-        right(full + "\n", 0);
-        error(1, full + "^a");
-        error(1, full.substring(0, 1194) + "person^");
+        Texts.right(full + "\n", 0);
+        Texts.error(1, full + "^a");
+        Texts.error(1, full.substring(0, 1194) + "person^");
     }
 
     private static void rightTexts() {
         Check.part("promise 4, right texts");
-        right("\n night\n00022 6\n\n5 240 \n;\n", 0);
-        right("night22 6 5 00240;person a5chief driver;", 1);
-        right("night 0 23 0 1;", 0);
-        right("night 23 0 30 999;", 0);
-        right(NIGHT + "person person 0;person trust 120 smoke medic driver chief;person eightlet 1;person chief 2 chief;"
+        Texts.right("\n night\n00022 6\n\n5 240 \n;\n", 0);
+        Texts.right("night22 6 5 00240;person a5chief driver;", 1);
+        Texts.right("night 0 23 0 1;", 0);
+        Texts.right("night 23 0 30 999;", 0);
+        Texts.right(NIGHT + "person person 0;person trust 120 smoke medic driver chief;person eightlet 1;person chief 2 chief;"
                 + "trust person trust 0;trust trust person 9;pager pager 0 1 person trust;engine engine 0 any;"
                 + "kind kind 1 0 1:pager:engine;kind night 1 0 1:pager:engine;", 4);
-        String all = NIGHT + many("person ", 12, " 5;") + many("pager ", 6, " 0 1 a l;") + many("engine ", 5, " 5 any;")
+        String all = NIGHT + Texts.many("person ", 12, " 5;") + Texts.many("pager ", 6, " 0 1 a l;") + Texts.many("engine ", 5, " 5 any;")
                 + "kind k 1 0 5:f e d c b a:e d c b a;";
-        right(all, 12);
+        Texts.right(all, 12);
         BrigadePagers x = Check.brigade(all);
         Check.due("the fourth person's name", Check.find(x, 0, "d"), 3);
         Check.due("rotation(5, 1)", x.rotation(5, 1), 11);
@@ -426,8 +389,8 @@ public final class TextPromisesTest {
     }
 
     private static String allOf(String skill, String pagers, String posts) {
-        return NIGHT + many("person ", 12, " 5" + skill + ";") + trusts(24) + many("pager ", 6, " 0 9" + pagers + ";")
-                + many("engine ", 5, " 5" + posts + ";") + "kind k 9 99 5:a b c d e f:e d c b a;"
+        return NIGHT + Texts.many("person ", 12, " 5" + skill + ";") + Texts.trusts(24) + Texts.many("pager ", 6, " 0 9" + pagers + ";")
+                + Texts.many("engine ", 5, " 5" + posts + ";") + "kind k 9 99 5:a b c d e f:e d c b a;"
                 + "kind l 9 99 1:a:a;kind m 9 99 2:f e:a;kind n 9 99 1:d b:b;kind o 9 99 1:d b:b;kind p 9 99 1:d b:b;";
     }
 
