@@ -441,6 +441,13 @@ final class CallEdges {
         still.excuse(2, true);
         still.pass(99);
         trustIs("a minute before it is over", called(still, 0), 5, 4, 5, 5, 5, 5);
+        // The one alerted pager is not the first one, and has more hand-ons than it, or fewer.
+        for (int handOns = 0; handOns <= 2; handOns++) {
+            BrigadePagers second = handed(handOns);
+            second.handOn(1, 0, 700);
+            second.excuse(0, true);
+            trustIs("of the second pager", called(second, 3), 5, 5, 5, 4, 5, 5);
+        }
         trustFallsWhenTired();
     }
 
@@ -481,6 +488,13 @@ final class CallEdges {
         everyTrust("at the return of f", x, zero);
         x.pass(1000);
         everyTrust("long after", x, zero);
+        BrigadePagers full = Scenes.byDay(Scenes.fullText().replace("engine a 0 any;", "engine a 0 any medic;")
+                .replace("pager f 0 48 k l", "pager f 0 48 l k"));
+        full.call(5);
+        full.pass(1440);
+        Check.due("trust(8, 11) of the last persons", full.trust(8, 11), 1);
+        Check.due("trust(11, 8) of the last persons", full.trust(11, 8), 1);
+        Check.due("trust(11, 10)", full.trust(11, 10), 0);
         BrigadePagers one = called(Scenes.byDay(crew("1") + "engine e 5 any;kind k 9 240 1:p:e;"), 0);
         Check.due("pass(20) with a crew of one", one.pass(20), 1);
     }

@@ -50,10 +50,13 @@ final class ChangeEdges {
     // ---- CHANGES
 
     private static void isChange(String what, Refusal.Act act, boolean isSeen) {
+        String before = Snapshot.of(ready());
+        BrigadePagers changed = ready();
+        act.on(changed);
+        Check.due("that " + what + " can be seen", !Snapshot.of(changed).equals(before), isSeen);
+        // Nothing is asked before undo(), so that no answer can have prepared it.
         BrigadePagers x = ready();
-        String before = Snapshot.of(x);
         act.on(x);
-        Check.due("that " + what + " can be seen", !Snapshot.of(x).equals(before), isSeen);
         Check.due("undo() of " + what, x.undo(), 5);
         Check.due("all answers after undo() of " + what, Snapshot.of(x), before);
         Check.due("the next undo()", x.undo(), 4);
@@ -219,7 +222,7 @@ final class ChangeEdges {
     private static void twoWaysOn() {
         BrigadePagers x = Scenes.byDay(Scenes.NIGHT + "person a 1;person b 2;person c 3;person d 4;pager p 0 24 a;pager q 0 24 b;"
                 + "pager r 0 24 c;pager s 0 24 d;engine e 5 any any;engine f 5 any;kind k 9 240 2:p q r s:e f;"
-                + "kind l 30 240 2:r s:e f;");
+                + "kind l 30 240 2:s r q p:f e;");
         x.save(0);
         x.call(0);
         String one = Snapshot.of(x);
@@ -373,6 +376,10 @@ final class ChangeEdges {
         Check.due("giveBack(0) of two", x.giveBack(0), 2);
         Check.due("giveBack(0) of one", x.giveBack(0), 0);
         Check.due("chain(0, 0)", x.chain(0, 0), 0);
+        BrigadePagers later = Check.brigade(TEXT);
+        Check.passTo(later, 3600);
+        later.handOn(0, 3, 4800);
+        Check.due("giveBack(0) in turn 3", later.giveBack(0), 2);
         Sentence.of(48, "Throws `IllegalStateException` if it has no hand-on");
         Check.refused("giveBack(0) of none", NO_STATE, () -> x.giveBack(0));
         Refusal.due("giveBack(1), of another pager", NO_STATE, () -> ready(), y -> y.giveBack(1));
@@ -452,6 +459,11 @@ final class ChangeEdges {
         Check.due("swapPlaces(0, 7, 6)", x.swapPlaces(0, 7, 6), 6);
         Check.due("rotation(0, 6)", x.rotation(0, 6), 1);
         Check.due("holderAt(0, 600)", x.holderAt(0, 600), 7);
+        BrigadePagers full = Scenes.full();
+        Check.due("swapPlaces(5, 1, 7) of the last pager", full.swapPlaces(5, 1, 7), 5);
+        Check.due("rotation(5, 1) of the last pager", full.rotation(5, 1), 5);
+        Check.due("rotation(5, 7) of the last pager", full.rotation(5, 7), 11);
+        Check.due("rotation(4, 7) of the one before it", full.rotation(4, 7), 3);
         Sentence.of(50, "Throws `IndexOutOfBoundsException` if there is no such pager or place (of either)");
         for (int place : new int[] {-1, 8, 9, Integer.MIN_VALUE, Integer.MAX_VALUE}) {
             Refusal.due("swapPlaces(0, " + place + ", 1)", NO_INDEX, () -> Check.brigade(text), y -> y.swapPlaces(0, place, 1));

@@ -202,11 +202,13 @@ final class ForetellEdges {
             Check.due("mostEngines(0) without " + (engine + 1), full.mostEngines(0), 4 - engine);
         }
         String text = NIGHT + "person a 1 chief;person b 1;pager p 0 24 a;pager q 0 24 b;engine e 5 any;engine f 5 chief;"
-                + "engine g 5 any any;kind k 9 240 1:p q:e f;kind l 9 240 1:p q:g e f;kind m 9 240 1:p q:e g;kind n 9 240 1:p:e f;";
+                + "engine g 5 any any;kind k 9 240 1:p q:e f;kind l 9 240 1:p q:g e f;kind m 9 240 1:p q:e g;kind n 9 240 1:p:e f;"
+                + "kind o 9 240 1:p q:e f g;";
         BrigadePagers x = Scenes.byDay(text);
         Check.due("whyStays(0, 1), as the kind says", x.whyStays(0, 1), 3);
         Check.due("mostEngines(0), chosen freely", x.mostEngines(0), 2);
         Check.due("mostEngines(1), without the greedy one", x.mostEngines(1), 2);
+        Check.due("mostEngines(4), with the greedy one last", x.mostEngines(4), 2);
         Check.due("mostEngines(2), no person in two crews", x.mostEngines(2), 1);
         Check.due("mostEngines(3), only those who would come", x.mostEngines(3), 1);
         x.call(0);

@@ -953,6 +953,11 @@ final class TextEdges {
             Check.put(x, name);
             Check.refused("find(0) of " + name, NONE_SUCH, () -> x.find(0));
         }
+        BrigadePagers one = Check.brigade(NIGHT + "person a 5;");
+        for (String name : new String[] {"", "a ", " a", "aa", "`", "`a", "A", "5", "\u0001", "\u00e1", "b", "a\n", "a;"}) {
+            Check.put(one, name);
+            Check.refused("find(0) of " + name, NONE_SUCH, () -> one.find(0));
+        }
         everyLetterCounts();
         Sentence.of(7, "`sort`: 0 for a person, 1 for a pager, 2 for an engine, 3 for a kind");
         String[] names = {"z", "y", "e", "k"};
