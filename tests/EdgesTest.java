@@ -11,9 +11,7 @@ public final class EdgesTest {
         ForetellEdges.run();
         ChangeEdges.run();
         IndexEdges.run();
-        if (args.length < 5) {
-            Sentence.allAreQuoted();
-        }
+        Sentence.allAreQuoted();
         Check.end();
     }
 }

@@ -137,6 +137,26 @@ public final class FaceTest {
         Check.due("a text joined by +", Pattern.compile("\"\\s*\\+|\\+\\s*\"").matcher(bare).find(), false);
         Check.due("a loop whose end cannot be seen", Pattern.compile("while \\(true\\)|for \\(;").matcher(bare).find(), false);
         methodsAreShort(whole.split("\n"));
+        rowsAreMadeInConstructors(bare.split("\n"));
+    }
+
+    /** The working page: "make rows in constructors and use them again"; trustPath(), promise 18, made one a call. */
+    private static void rowsAreMadeInConstructors(String[] lines) {
+        Pattern field = Pattern.compile("^ +private (final )?[\\w\\[\\]]+ \\w+ = new .*;$");
+        Pattern constructor = Pattern.compile("^( +)(private|public) [A-Z]\\w*\\(.*\\{$");
+        String closing = null;
+        for (String line : lines) {
+            Matcher found = constructor.matcher(line);
+            if (found.matches()) {
+                closing = found.group(1) + "}";
+            } else if (line.equals(closing)) {
+                closing = null;
+            }
+            if (Pattern.compile("(?<!throw )\\bnew\\b").matcher(line).find()) {
+                Check.due(line.trim() + " stands in a field or a constructor", closing != null || field.matcher(line).matches(),
+                        true);
+            }
+        }
     }
 
     private static void methodsAreShort(String[] lines) {

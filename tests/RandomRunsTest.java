@@ -9,7 +9,9 @@ import java.util.Random;
 /** Random runs of calls on the class and on the naive model: every answer and every exception must be the same. */
 public final class RandomRunsTest {
     private static final int RUNS = 400;
-    private static final int CALLS = 470;
+    private static final int CALLS = 400;
+    /** Some runs begin when the last time is near, and what ends beyond it matters. */
+    private static final int LATE_DAYS = 13;
     private static final int TEXTS = 20000;
 
     private static final String[] CHANGES = {
@@ -57,7 +59,15 @@ public final class RandomRunsTest {
         if (!same(method(face, "load"))) {
             return;
         }
+        boolean isLate = random.nextInt(4) == 0;
+        for (int day = 0; isLate && day < LATE_DAYS; day++) {
+            x.pass(1440);
+            y.pass(1440);
+        }
         for (int call = 0; call < CALLS; call++) {
+            if (random.nextInt(400) == 0 && !sameReloaded(method(face, "load"))) {
+                return;
+            }
             Method method = random.nextInt(5) < 2
                     ? method(face, CHANGES[random.nextInt(CHANGES.length)])
                     : face.get(random.nextInt(face.size()));
@@ -68,6 +78,16 @@ public final class RandomRunsTest {
                 return;
             }
         }
+    }
+
+    /** Another text, which may have an error, so that the run goes on with the brigade that it had. */
+    private boolean sameReloaded(Method load) {
+        x.truncate(0);
+        y.truncate(0);
+        String text = new RandomText(random, random.nextInt(3) == 0).make();
+        told.add("load of " + text);
+        fill(text);
+        return same(load);
     }
 
     /** A text that has an error or not; few calls, but all that say what was read. */

@@ -1319,6 +1319,8 @@ public final class BrigadePagers {
         private final int[] crews = new int[ENGINES];
         private int service;
         private final CallLog log = new CallLog();
+        /** No part of the state, but a row to reckon in, so that no question has to make one. */
+        private final int[] best = new int[PERSONS];
 
         /** The state of a plan that has only a night. */
         private State(Plan plan) {
@@ -1402,7 +1404,6 @@ public final class BrigadePagers {
         }
 
         private int bestRow(int person, int other) {
-            int[] best = new int[PERSONS];
             for (int to = 0; to < plan.personCount; to++) {
                 best[to] = to == person ? MOST_TRUST : trust[pair(person, to)];
             }
